@@ -684,7 +684,7 @@ public final class GelBook {
         }
     }
 
-    /** The cues that are to follow, in the order in which that was noted. Each call of go leaves at most one waiting. */
+    /** The cues that are to follow, in the order in which that was noted: no more than there were calls of go. */
     private static final class Waiting {
         final Cue[] noted;
         final int[] dueAt;

@@ -5,6 +5,7 @@ public final class AnswersTest {
     public static void main(String[] args) {
         constants();
         levelsRise();
+        shortTimesAndLowLevels();
         levelsStack();
         levelsByStandIns();
         anew();
@@ -60,6 +61,24 @@ public final class AnswersTest {
         x.release(1);
         x.pass(6);
         Check.bits("12: small floats", (1f - 6f / 7f) * 1f, x.levelOf(0));
+    }
+
+    private static void shortTimesAndLowLevels() {
+        GelBook x = book(2);
+        x.cue(GelBook.HIGHEST, 1, 1);
+        x.cue(GelBook.LATEST, 1, 2);
+        x.level(0, 0, 1);
+        x.go(0);
+        Check.bits("12: an up time of 1 begins at 0.0", 0f, x.levelOf(0));
+        x.pass(1);
+        Check.bits("12: and ends a tick later", 1f, x.levelOf(0));
+        x.go(1);
+        x.pass(1);
+        Check.bits("12: a LATEST cue without the lamp does nothing", 1f, x.levelOf(0));
+        Check.same("10: a down time of 1", true, x.release(0));
+        Check.bits("12: begins at the master", 1f, x.levelOf(0));
+        x.pass(1);
+        Check.bits("12: and ends a tick later, too", 0f, x.levelOf(0));
     }
 
     private static void levelsStack() {
@@ -325,6 +344,18 @@ public final class AnswersTest {
         Check.same("17: a bar and a position, below", 4, x.shines(0, 0));
         x.die(4);
         Check.same("17: two bars", 3, x.shines(0, 0));
+        GelBook row = new GelBook();
+        for (int position : new int[] {0, 9, 4, 7}) {
+            row.lamp(3, position, 55, 100, 0);
+        }
+        row.cue(GelBook.HIGHEST, 0, 0);
+        row.level(0, 3, 10);
+        row.die(3);
+        Check.same("17: two positions above", 1, row.shines(0, 3));
+        row.die(1);
+        Check.same("17: three below", 2, row.shines(0, 3));
+        row.die(2);
+        Check.same("17: lamp 0 stands in too", 0, row.shines(0, 3));
     }
 
     private static void playing() {

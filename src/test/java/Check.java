@@ -47,7 +47,7 @@ final class Check {
     }
 
     static void end() {
-        System.out.println(wrong == 0 ? checks + " answers are as due" : wrong + " of " + checks + " answers are wrong");
+        System.out.println(checks + " answers, " + wrong + " of them wrong");
         if (wrong != 0 || checks == 0) {
             System.exit(1);
         }

@@ -4,7 +4,7 @@ import java.util.List;
 import java.util.Set;
 import java.util.TreeMap;
 
-/** The document once more, in the slowest and plainest way, to compare GelBook with. Nothing is kept that can be found. */
+/** The document once more, in the slowest and plainest way, to compare GelBook with: all that can be found is. */
 final class PlainBook {
     record Lamp(int bar, int position, int gel, int watts, int phase) {
     }
